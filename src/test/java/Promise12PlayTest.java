@@ -10,6 +10,7 @@ public final class Promise12PlayTest {
         repeats(due);
         repeatsAtTheMark(due);
         wanes(due);
+        eachSignDoesItsOwnAlone(due);
         blanks(due);
         soundGoesRound(due);
         noRefusals(due);
@@ -176,6 +177,22 @@ public final class Promise12PlayTest {
         bench.head(0);
         due.is("FORCE off", bench.play(1), 1);
         due.is("count(HEAD)", bench.count(Benches.HEAD), 1);
+    }
+
+    private static void eachSignDoesItsOwnAlone(Due due) {
+        RollBench bench = new RollBench();
+        Benches.roll(bench, ".nt|wr ");
+        Benches.write(bench, Benches.TICKS, 5, 5, 5, 5, 5, 0, 5);
+        for (int lane = 2; lane < Benches.LANES; lane++) {
+            Benches.write(bench, lane, 1, 1, 1, 1, 1, 1, 1);
+        }
+        due.is("play", bench.play(200), 7);
+        Benches.playingIs(due, bench, 7, 15, 1, 3, 1, 11, 1);
+        Benches.cellsAre(due, bench, Benches.SIGNS, '.', 'n', 't', '|', 'w', 'r', ' ');
+        Benches.cellsAre(due, bench, Benches.TICKS, 5, 5, 5, 5, 5, 0, 5);
+        Benches.cellsAre(due, bench, Benches.FORCE, 1, 1, 1, 1, 0, 1, 1);
+        Benches.cellsAre(due, bench, Benches.PEDAL, 1, 1, 1, 1, 1, 1, 1);
+        Benches.cellsAre(due, bench, Benches.PITCH, 1, 1, 1, 1, 1, 1, 1);
     }
 
     private static void blanks(Due due) {
