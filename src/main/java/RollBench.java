@@ -355,10 +355,11 @@ public final class RollBench {
 
     /** Takes 1 from the lane's cell at the head if that is more than 0, and says whether it was. */
     private boolean lowered(int lane) {
-        if (told(lane, 0) <= 0) {
+        Lane asked = lanes[lane];
+        if (!asked.hasCell(head) || asked.cells[head] <= 0) {
             return false;
         }
-        lanes[lane].cells[head]--;
+        asked.cells[head]--;
         return true;
     }
 

@@ -19,8 +19,14 @@ public final class FaceTest {
         "NO_LANE=-1000001", "NO_WAY=-1000002", "GREAT=-1000003", "NEGATIVE=-1000004", "OFF=-1000005",
         "OUT=-1000006", "NO_SHEET=-1000007", "NO_ROW=-1000008", "NO_COLUMN=-1000009");
     private static final String[] RULED_OUT = {
-        "\\bimport\\b", "\\bpackage\\b", "\\btry\\b", "\\bcatch\\b", "\\bthrow\\b", "\\bfinally\\b",
-        "\\bsynchronized\\b", "\\bassert\\b", "->", "::", "Exact\\b"};
+        "\\bpackage\\b", "\\bimport (?!java\\.util\\.(ArrayList|List|Arrays|Iterator|NoSuchElementException);)",
+        "\\bfinally\\b", "\\bsynchronized\\b", "\\bassert\\b", "\\bgetMessage\\b", "\\bstatic\\s*\\{",
+        "\\bSystem\\.(?!arraycopy\\b)", "\\bMath\\.random\\b", "\\b\\w+Exact\\b",
+        // a method reference; an arrow that is no case of a switch
+        "::", "(?m)^(?!.*\\b(case|default)\\b).*->",
+        // what the machine throws, or a class above it
+        "\\bThrowable\\b", "\\bcatch\\s*\\([^)]*\\b(ArrayIndexOutOfBounds|IndexOutOfBounds|NullPointer|Arithmetic"
+            + "|ClassCast|NegativeArraySize|ArrayStore|Runtime)?Exception\\b"};
 
     public static void main(String[] args) throws IOException, IllegalAccessException {
         Due due = new Due();

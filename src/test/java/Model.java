@@ -6,119 +6,121 @@ import java.util.Map;
 
 /**
  * The document written a second time, in other means than the class (lists, maps, BigInteger),
- * so that a slip in the one is not a slip in the other.
+ * so that a slip in the one is not a slip in the other. Its parts can be overridden, so that a
+ * bench can be made in which one sentence of the document is broken and all others hold.
  */
-final class Model {
-    private static final List<String> NAMES = List.of("SIGNS", "TICKS", "FORCE", "PEDAL", "PITCH");
-    private static final BigInteger ROUND = BigInteger.ONE.shiftLeft(32);
+class Model implements Bench {
+    static final int NONE = 0;
+    static final List<String> NAMES = List.of("SIGNS", "TICKS", "FORCE", "PEDAL", "PITCH");
 
-    private final Map<String, List<BigInteger>> cells = new HashMap<>();
-    private final Map<String, List<List<BigInteger>>> sheets = new HashMap<>();
-    private final Map<String, Integer> columnsOf = new HashMap<>();
-    private final Map<String, Integer> offs = new HashMap<>();
-    private final Map<String, Integer> outs = new HashMap<>();
-    private BigInteger clock = BigInteger.ZERO;
-    private BigInteger shift = BigInteger.ZERO;
-    private BigInteger sound = BigInteger.ZERO;
-    private int head;
-    private int mark;
-    private int notes;
-    private int blanks;
+    final Map<String, List<BigInteger>> cells = new HashMap<>();
+    final Map<String, List<List<BigInteger>>> sheets = new HashMap<>();
+    final Map<String, Integer> columnsOf = new HashMap<>();
+    final Map<String, Integer> offs = new HashMap<>();
+    final Map<String, Integer> outs = new HashMap<>();
+    BigInteger clock = BigInteger.ZERO;
+    BigInteger shift = BigInteger.ZERO;
+    BigInteger sound = BigInteger.ZERO;
+    int head;
+    int mark;
+    int notes;
+    int blanks;
 
-    int mount(int lane, int n) {
-        if (noLane(lane)) return RollBench.NO_LANE;
-        if (n > 60) return RollBench.GREAT;
-        if (n < 0) return RollBench.NEGATIVE;
-        cells.put(NAMES.get(lane), zeros(n));
+    @Override
+    public int mount(int lane, int n) {
+        if (noLane(lane)) return Sentences.NO_LANE;
+        if (n > 60) return Sentences.GREAT;
+        if (n < 0) return Sentences.NEGATIVE;
+        cells.put(name(lane), zeros(n));
         return n;
     }
 
-    int strip(int lane) {
-        if (noLane(lane)) return RollBench.NO_LANE;
-        if (off(lane)) return RollBench.OFF;
-        return cells.remove(NAMES.get(lane)).size();
+    @Override
+    public int strip(int lane) {
+        if (noLane(lane)) return Sentences.NO_LANE;
+        if (off(lane)) return Sentences.OFF;
+        return cells.remove(name(lane)).size();
     }
 
-    int size(int lane) {
-        if (noLane(lane)) return RollBench.NO_LANE;
-        if (off(lane)) return RollBench.OFF;
-        return cells.get(NAMES.get(lane)).size();
+    @Override
+    public int size(int lane) {
+        if (noLane(lane)) return Sentences.NO_LANE;
+        if (off(lane)) return Sentences.OFF;
+        return cells.get(name(lane)).size();
     }
 
-    int cell(int lane, int i) {
-        if (noLane(lane)) return RollBench.NO_LANE;
-        if (off(lane)) return RollBench.OFF;
-        if (out(lane, i, size(lane) - 1)) return RollBench.OUT;
-        return cells.get(NAMES.get(lane)).get(i).intValueExact();
+    @Override
+    public int cell(int lane, int i) {
+        int refusal = refusalOfCell(lane, i);
+        return refusal != NONE ? refusal : has(lane, i).intValueExact();
     }
 
-    int put(int lane, int i, int v) {
-        int c = cell(lane, i);
-        return c <= RollBench.NO_LANE ? c : store(lane, i, BigInteger.valueOf(v));
+    @Override
+    public int put(int lane, int i, int v) {
+        int refusal = refusalOfCell(lane, i);
+        return refusal != NONE ? refusal : store(lane, i, BigInteger.valueOf(v));
     }
 
-    int change(int lane, int way, int i, int v) {
-        if (noLane(lane)) return RollBench.NO_LANE;
-        if (way != 0 && way != 1 && way != 2 && way != 3) return RollBench.NO_WAY;
-        int c = cell(lane, i);
-        if (c <= RollBench.NO_LANE) return c;
-        if (NAMES.get(lane).equals("PEDAL")) return store(lane, i, pedal(way, c == 1, v % 2 != 0));
-        BigInteger having = BigInteger.valueOf(c);
-        BigInteger by = BigInteger.valueOf(v);
-        BigInteger exact = way == 0 ? having.add(by)
-            : way == 1 ? having.subtract(by)
-            : way == 2 ? having.multiply(by)
-            : having.add(BigInteger.ONE);
-        return store(lane, i, NAMES.get(lane).equals("FORCE") ? exact : gone(exact));
+    @Override
+    public int change(int lane, int way, int i, int v) {
+        if (noLane(lane)) return Sentences.NO_LANE;
+        if (way != 0 && way != 1 && way != 2 && way != 3) return Sentences.NO_WAY;
+        int refusal = refusalOfCell(lane, i);
+        if (refusal != NONE) return refusal;
+        BigInteger c = has(lane, i);
+        if (name(lane).equals("PEDAL")) return store(lane, i, pedal(way, c.signum() == 1, v % 2 != 0));
+        BigInteger exact = reckoned(way, c, BigInteger.valueOf(v));
+        return store(lane, i, name(lane).equals("FORCE") ? exact : gone(exact));
     }
 
-    int rule(int lane, int rows, int columns) {
-        if (noLane(lane)) return RollBench.NO_LANE;
-        if (rows > 16 || columns > 16) return RollBench.GREAT;
-        if (rows < 0 || columns < 0) return RollBench.NEGATIVE;
+    @Override
+    public int rule(int lane, int rows, int columns) {
+        if (noLane(lane)) return Sentences.NO_LANE;
+        if (rows > 16 || columns > 16) return Sentences.GREAT;
+        if (rows < 0 || columns < 0) return Sentences.NEGATIVE;
         List<List<BigInteger>> sheet = new ArrayList<>();
         for (int row = 0; row < rows; row++) sheet.add(zeros(columns));
-        sheets.put(NAMES.get(lane), sheet);
-        columnsOf.put(NAMES.get(lane), columns);
+        sheets.put(name(lane), sheet);
+        columnsOf.put(name(lane), columns);
         return rows * columns;
     }
 
-    int lay(int lane, int row, int from) {
-        if (noLane(lane)) return RollBench.NO_LANE;
-        List<List<BigInteger>> sheet = sheets.get(NAMES.get(lane));
-        if (sheet == null) return RollBench.NO_SHEET;
-        if (row < 0 || row >= sheet.size()) return RollBench.NO_ROW;
-        if (off(lane)) return RollBench.OFF;
-        List<BigInteger> laid = cells.get(NAMES.get(lane));
-        if (out(lane, from, laid.size())) return RollBench.OUT;
+    @Override
+    public int lay(int lane, int row, int from) {
+        int refusal = refusalOfRow(lane, row);
+        if (refusal != NONE) return refusal;
+        if (off(lane)) return Sentences.OFF;
+        List<BigInteger> laid = cells.get(name(lane));
+        if (out(lane, from, laid.size())) return Sentences.OUT;
         int many = 0;
-        while (from + many < laid.size() && many < columnsOf.get(NAMES.get(lane))) {
-            sheet.get(row).set(many, laid.get(from + many));
+        while (from + many < laid.size() && many < columnsOf.get(name(lane))) {
+            sheets.get(name(lane)).get(row).set(many, laid.get(from + many));
             many++;
         }
         return many;
     }
 
-    int at(int lane, int row, int column) {
-        if (noLane(lane)) return RollBench.NO_LANE;
-        List<List<BigInteger>> sheet = sheets.get(NAMES.get(lane));
-        if (sheet == null) return RollBench.NO_SHEET;
-        if (row < 0 || row >= sheet.size()) return RollBench.NO_ROW;
-        if (column < 0 || column >= columnsOf.get(NAMES.get(lane))) return RollBench.NO_COLUMN;
-        return sheet.get(row).get(column).intValueExact();
+    @Override
+    public int at(int lane, int row, int column) {
+        int refusal = refusalOfRow(lane, row);
+        if (refusal != NONE) return refusal;
+        if (column < 0 || column >= columnsOf.get(name(lane))) return Sentences.NO_COLUMN;
+        return sheets.get(name(lane)).get(row).get(column).intValueExact();
     }
 
-    int head(int h) {
-        if (h > 60) return RollBench.GREAT;
-        if (h < 0) return RollBench.NEGATIVE;
+    @Override
+    public int head(int h) {
+        if (h > 60) return Sentences.GREAT;
+        if (h < 0) return Sentences.NEGATIVE;
         int was = head;
         head = h;
         return was;
     }
 
-    int play(int n) {
-        if (n < 0) return RollBench.NEGATIVE;
-        if (n > 200) return RollBench.GREAT;
+    @Override
+    public int play(int n) {
+        if (n < 0) return Sentences.NEGATIVE;
+        if (n > 200) return Sentences.GREAT;
         int done = 0;
         while (done < n && tells("SIGNS")) {
             step(told("SIGNS", -1).intValueExact());
@@ -127,9 +129,10 @@ final class Model {
         return done;
     }
 
-    int count(int what) {
-        if (what >= 0 && what <= 4) return offs.getOrDefault(NAMES.get(what), 0);
-        if (what >= 5 && what <= 9) return outs.getOrDefault(NAMES.get(what - 5), 0);
+    @Override
+    public int count(int what) {
+        if (what >= 0 && what <= 4) return offs.getOrDefault(name(what), 0);
+        if (what >= 5 && what <= 9) return outs.getOrDefault(name(what - 5), 0);
         if (what == 10) return head;
         if (what == 11) return gone(clock).intValueExact();
         if (what == 12) return shift.intValueExact();
@@ -140,15 +143,11 @@ final class Model {
         return 0;
     }
 
-    private void step(int sign) {
+    void step(int sign) {
         if (sign == 46) {
             clock = clock.add(told("TICKS", 1));
         } else if (sign == 110) {
-            BigInteger t = told("TICKS", 1);
-            if (told("PEDAL", 0).signum() == 1) t = t.add(t);
-            clock = clock.add(t);
-            notes++;
-            sound = sound.add(t.multiply(told("PITCH", 0).add(shift))).add(told("FORCE", 8));
+            note();
         } else if (sign == 116) {
             shift = told("PITCH", 0);
         } else if (sign == 124) {
@@ -165,41 +164,70 @@ final class Model {
         head++;
     }
 
-    private boolean tells(String lane) {
+    void note() {
+        BigInteger t = told("TICKS", 1);
+        if (told("PEDAL", 0).signum() == 1) t = t.add(t);
+        clock = clock.add(t);
+        notes++;
+        sound = sound.add(t.multiply(told("PITCH", 0).add(shift))).add(told("FORCE", 8));
+    }
+
+    boolean tells(String lane) {
         return cells.containsKey(lane) && head < cells.get(lane).size();
     }
 
-    private BigInteger told(String lane, int otherwise) {
+    BigInteger told(String lane, int otherwise) {
         return tells(lane) ? cells.get(lane).get(head) : BigInteger.valueOf(otherwise);
     }
 
-    private void lessen(String lane) {
+    void lessen(String lane) {
         cells.get(lane).set(head, cells.get(lane).get(head).subtract(BigInteger.ONE));
     }
 
-    private static boolean noLane(int lane) {
+    boolean noLane(int lane) {
         return lane < 0 || lane > 4;
     }
 
-    private boolean off(int lane) {
-        if (cells.containsKey(NAMES.get(lane))) return false;
-        offs.merge(NAMES.get(lane), 1, Integer::sum);
+    String name(int lane) {
+        return NAMES.get(lane);
+    }
+
+    boolean off(int lane) {
+        if (cells.containsKey(name(lane))) return false;
+        offs.merge(name(lane), 1, Integer::sum);
         return true;
     }
 
-    private boolean out(int lane, int i, int last) {
+    boolean out(int lane, int i, int last) {
         if (i >= 0 && i <= last) return false;
-        outs.merge(NAMES.get(lane), 1, Integer::sum);
+        outs.merge(name(lane), 1, Integer::sum);
         return true;
     }
 
-    private int store(int lane, int i, BigInteger v) {
-        BigInteger kept = kept(NAMES.get(lane), v);
-        cells.get(NAMES.get(lane)).set(i, kept);
+    int refusalOfCell(int lane, int i) {
+        if (noLane(lane)) return Sentences.NO_LANE;
+        if (off(lane)) return Sentences.OFF;
+        return out(lane, i, cells.get(name(lane)).size() - 1) ? Sentences.OUT : NONE;
+    }
+
+    int refusalOfRow(int lane, int row) {
+        if (noLane(lane)) return Sentences.NO_LANE;
+        List<List<BigInteger>> sheet = sheets.get(name(lane));
+        if (sheet == null) return Sentences.NO_SHEET;
+        return row < 0 || row >= sheet.size() ? Sentences.NO_ROW : NONE;
+    }
+
+    BigInteger has(int lane, int i) {
+        return cells.get(name(lane)).get(i);
+    }
+
+    int store(int lane, int i, BigInteger v) {
+        BigInteger kept = kept(name(lane), v);
+        cells.get(name(lane)).set(i, kept);
         return kept.intValueExact();
     }
 
-    private static BigInteger kept(String lane, BigInteger v) {
+    BigInteger kept(String lane, BigInteger v) {
         switch (lane) {
             case "SIGNS":
                 return v.mod(BigInteger.valueOf(65536));
@@ -214,23 +242,36 @@ final class Model {
         }
     }
 
-    private static BigInteger signed(BigInteger v, long round) {
-        BigInteger rest = v.mod(BigInteger.valueOf(round));
-        return rest.longValueExact() >= round / 2 ? rest.subtract(BigInteger.valueOf(round)) : rest;
+    BigInteger reckoned(int way, BigInteger c, BigInteger v) {
+        switch (way) {
+            case 0:
+                return c.add(v);
+            case 1:
+                return c.subtract(v);
+            case 2:
+                return c.multiply(v);
+            default:
+                return c.add(BigInteger.ONE);
+        }
     }
 
-    private static BigInteger gone(BigInteger v) {
-        return signed(v, ROUND.longValueExact());
+    BigInteger gone(BigInteger v) {
+        return signed(v, 1L << 32);
     }
 
-    private static BigInteger pedal(int way, boolean down, boolean odd) {
+    BigInteger pedal(int way, boolean down, boolean odd) {
         boolean then = way == 0 ? down || odd : way == 1 ? down && odd : way == 2 ? down != odd : !down;
         return then ? BigInteger.ONE : BigInteger.ZERO;
     }
 
-    private static List<BigInteger> zeros(int n) {
+    List<BigInteger> zeros(int n) {
         List<BigInteger> zeros = new ArrayList<>();
         for (int i = 0; i < n; i++) zeros.add(BigInteger.ZERO);
         return zeros;
+    }
+
+    private static BigInteger signed(BigInteger v, long round) {
+        BigInteger rest = v.mod(BigInteger.valueOf(round));
+        return rest.longValueExact() >= round / 2 ? rest.subtract(BigInteger.valueOf(round)) : rest;
     }
 }
