@@ -343,9 +343,11 @@ final class SentencesOfSteps extends Sentences {
             for (int ticks : new int[] {0, -1, -32768}) {
                 Bench x = t.roll("|.r");
                 t.write(x, TICKS, 5, 5, ticks);
+                t.write(x, FORCE, 6, 6, 6);
                 t.due(x.play(3), 3);
                 t.playing(x, 3, 5, 0, 0, 0, 0, 0);
                 t.cells(x, TICKS, 5, 5, ticks);
+                t.cells(x, FORCE, 6, 6, 6);
             }
         }, () -> new Model() {
             @Override
@@ -365,6 +367,11 @@ final class SentencesOfSteps extends Sentences {
             void step(int sign) {
                 super.step(sign);
                 if (sign == 114 && head != mark) blanks++;
+            }
+        }, () -> new Model() {
+            @Override
+            void step(int sign) {
+                super.step(sign == 114 && told("TICKS", 0).signum() <= 0 ? 119 : sign);
             }
         });
     }
