@@ -7,7 +7,7 @@ import java.util.Map;
 /**
  * The document written a second time, in other means than the class (lists, maps, BigInteger),
  * so that a slip in the one is not a slip in the other. Its parts can be overridden, so that a
- * bench can be made in which one sentence of the document is broken and all others hold.
+ * bench can be made in which a sentence of the document is broken.
  */
 class Model implements Bench {
     static final int NONE = 0;
