@@ -10,7 +10,7 @@ import java.util.Set;
 
 /**
  * That the sentences which are tested are the document's, word for word, under the heading that is named,
- * and that "Terms" and the promises hold no word beside them.
+ * and that "What it is", "Terms" and the promises hold no word beside them.
  */
 public final class DocumentTest {
     /** What stands between sentences and promises nothing. */
@@ -37,16 +37,16 @@ public final class DocumentTest {
             List<String> left = left(part.getValue(), covered.get(part.getKey()));
             due.holds(part.getKey() + " is tested whole, but for " + left, left.isEmpty());
         }
-        due.is("how many parts are tested", parts.size(), 14);
+        due.is("how many parts are tested", parts.size(), 15);
         due.end();
     }
 
-    /** "Terms" and the promises: the text under each heading, in one line, without the face of a call before it. */
+    /** The parts that promise: the text under each heading, in one line, without the face of a call before it. */
     private static Map<String, String> parts(String document) {
         Map<String, String> parts = new LinkedHashMap<>();
         for (String part : document.split("(?m)^## ")) {
             String heading = part.lines().findFirst().orElse("").trim();
-            if (heading.equals("Terms") || heading.startsWith("Promise ")) {
+            if (heading.equals("What it is") || heading.equals("Terms") || heading.startsWith("Promise ")) {
                 String text = part.substring(part.indexOf('\n') + 1).replaceAll("(?m)^```.*$", " ")
                     .replaceAll("\\s+", " ").trim();
                 parts.put(heading, text.replaceFirst("^`[^`]*\\)`:", ""));

@@ -121,11 +121,11 @@ abstract class Sentences {
     static List<Sentence> all() {
         List<Sentence> all = new ArrayList<>();
         for (Sentences part : List.of(
-            new SentencesOfLanes(), new SentencesOfSheets(), new SentencesOfRefusals(), new SentencesOfPlaying(),
-            new SentencesOfSteps(), new SentencesOfConstants(), new Sentences01NewObject(), new Sentences02Mount(),
-            new Sentences03Strip(), new Sentences04Size(), new Sentences05Cell(), new Sentences06Put(),
-            new Sentences07Change(), new Sentences08Rule(), new Sentences09Lay(), new Sentences10At(),
-            new Sentences11Head(), new Sentences12Play(), new Sentences13Count())) {
+            new SentencesOfWhatItIs(), new SentencesOfLanes(), new SentencesOfSheets(), new SentencesOfRefusals(),
+            new SentencesOfPlaying(), new SentencesOfSteps(), new SentencesOfConstants(), new Sentences01NewObject(),
+            new Sentences02Mount(), new Sentences03Strip(), new Sentences04Size(), new Sentences05Cell(),
+            new Sentences06Put(), new Sentences07Change(), new Sentences08Rule(), new Sentences09Lay(),
+            new Sentences10At(), new Sentences11Head(), new Sentences12Play(), new Sentences13Count())) {
             all.addAll(part.list);
         }
         return all;
