@@ -76,7 +76,10 @@ public final class LanguageTest {
         }
     }
 
-    /** How many of the class's own methods stand open at most; far too many if one calls itself. */
+    /**
+     * How many of the class's own methods stand open at most; far too many if one calls itself. Methods of one
+     * name are taken for one, which can only make it more.
+     */
     private int depth(String method, Set<String> open) {
         if (!open.add(method)) {
             return 1000;
